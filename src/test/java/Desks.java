@@ -1,0 +1,69 @@
+/** Desks that several tests start from, and names for what they do there. */
+final class Desks {
+    static final int OPEN = 0;
+    static final int CLOSE = 1;
+    static final int EARTH_ON = 2;
+    static final int EARTH_OFF = 3;
+    static final int SOURCE_ON = 4;
+    static final int SOURCE_OFF = 5;
+
+    static final boolean BREAKER = true;
+    static final boolean DISCONNECTOR = false;
+
+    static final Class<IllegalArgumentException> ARGUMENT = IllegalArgumentException.class;
+    static final Class<IndexOutOfBoundsException> INDEX = IndexOutOfBoundsException.class;
+    static final Class<IllegalStateException> STATE = IllegalStateException.class;
+
+    private Desks() {
+    }
+
+    /** Nodes without source and load. */
+    static Switchlog bare(int nodes) {
+        Switchlog desk = new Switchlog();
+        for (int i = 0; i < nodes; i++) {
+            desk.addNode(false, false);
+        }
+        return desk;
+    }
+
+    /** Node 0 has a source, node 1 nothing, node 2 a load; switch 0 joins 0 and 1, switch 1 joins 1 and 2. */
+    static Switchlog feeder(boolean first, boolean second) {
+        Switchlog desk = new Switchlog();
+        desk.addNode(true, false);
+        desk.addNode(false, false);
+        desk.addNode(false, true);
+        desk.addSwitch(0, 1, first);
+        desk.addSwitch(1, 2, second);
+        return desk;
+    }
+
+    /** One node whose earth was switched on and off until the log has so many acts. */
+    static Switchlog withLog(int acts) {
+        Switchlog desk = bare(1);
+        for (int i = 0; i < acts; i++) {
+            desk.act(i % 2 == 0 ? EARTH_ON : EARTH_OFF, 0);
+        }
+        return desk;
+    }
+
+    /** Does acts that the test takes as given: "41 10" is act(4, 1), act(1, 0). */
+    static Switchlog after(Switchlog desk, String acts) {
+        for (String act : acts.split(" ")) {
+            int code = Integer.parseInt(act);
+            int why = desk.act(code / 10, code % 10);
+            if (why != 0) {
+                throw new AssertionError("act " + act + " of " + acts + " is not done: " + why);
+            }
+        }
+        return desk;
+    }
+
+    /** Writes acts, told as at after(). */
+    static Switchlog written(Switchlog desk, String acts) {
+        for (String act : acts.split(" ")) {
+            int code = Integer.parseInt(act);
+            desk.write(code / 10, code % 10);
+        }
+        return desk;
+    }
+}
