@@ -565,7 +565,7 @@ public final class Switchlog {
         }
     }
 
-    /** A permit that is handed back holds no nodes, and none that is held does. */
+    /** No nodes stand for a permit that was handed back, because none is given without nodes. */
     private static final class Permits {
         private final int[] holds = new int[MOST_PERMITS];
         private int given;

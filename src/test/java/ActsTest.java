@@ -1,3 +1,5 @@
+import java.util.function.Supplier;
+
 /** Promises 6 to 11: acts, their reasons, and the log. */
 public final class ActsTest {
     private static final Expect expect = new Expect("ActsTest");
@@ -25,43 +27,41 @@ public final class ActsTest {
     }
 
     private static void act(Switchlog desk, int kind, int what, int want) {
-        String call = "(" + kind + ", " + what + ") on " + Sight.of(desk);
+        String call = "(" + kind + ", " + what + ") after " + desk.log() + " acts, live " + desk.live()
+                + ", loaded " + desk.loaded() + ", earthed " + desk.earthed() + ", held " + desk.held();
         int log = desk.log();
         expect.due("reason" + call, want, desk.reason(kind, what));
         expect.due("act" + call, want, desk.act(kind, what));
         expect.due("log() after act" + call, want == 0 ? log + 1 : log, desk.log());
     }
 
-    private static void refuseActsOfNothing(Switchlog desk, int nodes, int switches) {
+    private static void refuseActsOfNothing(Supplier<Switchlog> made, int nodes, int switches) {
         for (int kind : new int[] {-1, 6, 7, -2, 100, Integer.MIN_VALUE, Integer.MAX_VALUE}) {
             for (int what : new int[] {0, -1, 1000}) {
-                refuseAct(desk, kind, what, Desks.ARGUMENT);
+                refuseAct(made, kind, what, Desks.ARGUMENT);
             }
         }
         for (int kind = 0; kind < 6; kind++) {
             int bound = kind < 2 ? switches : nodes;
             for (int what : new int[] {-1, bound, bound + 1, 32, Integer.MIN_VALUE, Integer.MAX_VALUE}) {
-                refuseAct(desk, kind, what, Desks.INDEX);
+                refuseAct(made, kind, what, Desks.INDEX);
             }
         }
     }
 
-    private static void refuseAct(Switchlog desk, int kind, int what, Class<? extends RuntimeException> want) {
+    private static void refuseAct(Supplier<Switchlog> made, int kind, int what,
+            Class<? extends RuntimeException> want) {
         String call = "(" + kind + ", " + what + ")";
-        expect.refused(desk, "act" + call, want, () -> desk.act(kind, what));
-        expect.refused(desk, "reason" + call, want, () -> desk.reason(kind, what));
-        expect.refused(desk, "times" + call, want, () -> desk.times(kind, what));
+        expect.refused(made, "act" + call, want, desk -> desk.act(kind, what));
+        expect.refused(made, "reason" + call, want, desk -> desk.reason(kind, what));
+        expect.refused(made, "times" + call, want, desk -> desk.times(kind, what));
     }
 
     private static void actsAreRefusedInOrder() {
-        refuseActsOfNothing(new Switchlog(), 0, 0);
-        refuseActsOfNothing(Desks.feeder(true, true), 3, 2);
-        Switchlog manySwitches = Desks.bare(2);
-        for (int i = 0; i < 5; i++) {
-            manySwitches.addSwitch(0, 1, true);
-        }
-        refuseActsOfNothing(manySwitches, 2, 5);
-        refuseActsOfNothing(Desks.withLog(200), 1, 0);
+        refuseActsOfNothing(() -> new Switchlog(), 0, 0);
+        refuseActsOfNothing(() -> Desks.feeder(true, true), 3, 2);
+        refuseActsOfNothing(() -> Desks.joined(5), 2, 5);
+        refuseActsOfNothing(() -> Desks.withLog(200), 1, 0);
     }
 
     private static void reasonIsRefusedAsActBesidesTheLog() {
@@ -299,24 +299,27 @@ public final class ActsTest {
     }
 
     private static void reasonChangesNothing() {
-        Switchlog desk = Desks.written(Desks.after(Desks.feeder(true, false), "40 10"), "00 22");
-        String before = Sight.of(desk);
-        for (int kind = 0; kind < 6; kind++) {
-            for (int what = 0; what < (kind < 2 ? 2 : 3); what++) {
-                desk.reason(kind, what);
-                expect.due("what is seen after reason(" + kind + ", " + what + ")", before, Sight.of(desk));
+        Supplier<Switchlog> made =
+                () -> Desks.written(Desks.after(Desks.feeder(true, false), "40 10"), "00 22");
+        int[][] due = {{0, 1}, {1, 3}, {3, 3, 0}, {1, 1, 1}, {1, 1, 1}, {0, 1, 1}};
+        for (int i = 0; i < due.length; i++) {
+            int kind = i;
+            for (int j = 0; j < due[kind].length; j++) {
+                int what = j;
+                expect.unchanged(made, "reason(" + kind + ", " + what + ")", "" + due[kind][what],
+                        desk -> desk.reason(kind, what));
             }
         }
-        expect.due("erase()", 2, desk.erase());
     }
 
     private static void theLogHasRoomFor200() {
+        Supplier<Switchlog> full = () -> Desks.withLog(200);
+        expect.refused(full, "act that is allowed, of 200", Desks.STATE, desk -> desk.act(2, 0));
+        expect.refused(full, "act that is not allowed, of 200", Desks.STATE, desk -> desk.act(3, 0));
         Switchlog desk = Desks.withLog(199);
         expect.due("act that is not allowed", 1, desk.act(2, 0));
         expect.due("the 200th act", 0, desk.act(3, 0));
         expect.due("log()", 200, desk.log());
-        expect.refused(desk, "act that is allowed, of 200", Desks.STATE, () -> desk.act(2, 0));
-        expect.refused(desk, "act that is not allowed, of 200", Desks.STATE, () -> desk.act(3, 0));
         expect.due("logged(199)", 200, desk.logged(199));
         expect.due("logged(0)", 300, desk.logged(0));
         expect.due("takeBack()", 0, desk.takeBack());
@@ -325,53 +328,56 @@ public final class ActsTest {
     }
 
     private static void takingBackInReverseOrder() {
-        Switchlog empty = Desks.feeder(true, true);
-        expect.refused(empty, "takeBack() of an empty log", Desks.STATE, () -> empty.takeBack());
-        Switchlog desk = Desks.feeder(true, true);
-        String first = Sight.of(desk);
-        String acts = "22 32 10 40 11 01 50 00 10";
-        String[] each = acts.split(" ");
-        String[] before = new String[each.length];
-        for (int i = 0; i < each.length; i++) {
-            before[i] = Sight.of(desk);
-            Desks.after(desk, each[i]);
+        expect.refused(() -> Desks.feeder(true, true), "takeBack() of an empty log", Desks.STATE,
+                desk -> desk.takeBack());
+        String[] acts = "22 32 10 40 11 01 50 00 10".split(" ");
+        for (int left = 0; left < acts.length; left++) {
+            Switchlog due = Desks.feeder(true, true);
+            Switchlog desk = Desks.feeder(true, true);
+            for (int i = 0; i < acts.length; i++) {
+                Desks.after(desk, acts[i]);
+                Desks.after(due, i < left ? acts[i] : "");
+            }
+            for (int i = acts.length - 1; i >= left; i--) {
+                expect.due("takeBack() of " + acts[i], 0, desk.takeBack());
+            }
+            expect.due("what is seen with " + left + " acts left", Sight.usingUp(due), Sight.usingUp(desk));
         }
-        for (int i = each.length - 1; i >= 0; i--) {
-            expect.due("takeBack() of " + each[i], 0, desk.takeBack());
-            expect.due("what is seen after takeBack() of " + each[i], before[i], Sight.of(desk));
-        }
-        expect.due("what is seen after all", first, Sight.of(desk));
-        expect.refused(desk, "takeBack() once more", Desks.STATE, () -> desk.takeBack());
+        expect.refused(() -> takenBack(Desks.after(Desks.feeder(true, true), "22")), "takeBack() once more",
+                Desks.STATE, desk -> desk.takeBack());
     }
 
-    private static void takeBackNot(Switchlog desk, int want) {
-        String before = Sight.of(desk);
-        expect.due("takeBack() on " + before, want, desk.takeBack());
-        expect.due("what is seen after takeBack()", before, Sight.of(desk));
+    private static Switchlog takenBack(Switchlog desk) {
+        desk.takeBack();
+        return desk;
+    }
+
+    private static void takeBackNot(Supplier<Switchlog> made, int want) {
+        expect.unchanged(made, "takeBack()", "" + want, desk -> desk.takeBack());
+        Switchlog free = made.get();
+        free.handBack(0);
+        expect.due("takeBack() without the permit", 0, free.takeBack());
     }
 
     /** Only permits can stand against taking back: the rest is as the act has left it. */
     private static void takingBackWhatIsNotAllowed() {
-        Switchlog held = Desks.after(Desks.bare(2), "20 21");
-        held.permit(0b10);
-        takeBackNot(held, 2);
-        held.handBack(0);
-        expect.due("takeBack() of what is not held any more", 0, held.takeBack());
-        held.permit(0b01);
-        takeBackNot(held, 2);
-        Switchlog earthedBehind = Desks.bare(2);
-        earthedBehind.addSwitch(0, 1, true);
-        Desks.after(earthedBehind, "10 21");
-        earthedBehind.permit(0b01);
-        takeBackNot(earthedBehind, 4);
-        Switchlog joinedBehind = Desks.bare(3);
-        joinedBehind.addSwitch(0, 1, true);
-        joinedBehind.addSwitch(1, 2, false);
-        Desks.after(joinedBehind, "10 22 11");
-        joinedBehind.permit(0b001);
-        takeBackNot(joinedBehind, 4);
-        joinedBehind.handBack(0);
-        expect.due("takeBack() of what no permit needs", 0, joinedBehind.takeBack());
+        takeBackNot(() -> Desks.withPermits(Desks.earthed(2), 0b10), 2);
+        takeBackNot(() -> Desks.withPermits(Desks.earthed(2), 0b11), 2);
+        takeBackNot(() -> Desks.withPermits(Desks.after(Desks.joined(1), "10 21"), 0b01), 4);
+        takeBackNot(() -> Desks.withPermits(joinedBehind(), 0b001), 4);
+        takeBackNot(() -> Desks.withPermits(joinedBehind(), 0b010), 2);
+        takeBackNot(() -> Desks.withPermits(joinedBehind(), 0b100), 2);
+        Switchlog notTouched = Desks.withPermits(Desks.earthed(2), 0b01);
+        expect.due("takeBack() of what is not held", 0, notTouched.takeBack());
+        expect.due("earthed()", 0b01, notTouched.earthed());
+    }
+
+    /** Node 0 is joined to node 1, and that to node 2, which is earthed, by the latest act. */
+    private static Switchlog joinedBehind() {
+        Switchlog desk = Desks.bare(3);
+        desk.addSwitch(0, 1, true);
+        desk.addSwitch(1, 2, false);
+        return Desks.after(desk, "10 22 11");
     }
 
     private static void loggedIsToldFromTheLatest() {
@@ -380,13 +386,14 @@ public final class ActsTest {
         for (int i = 0; i < due.length; i++) {
             expect.due("logged(" + i + ")", due[i], desk.logged(i));
         }
+        Supplier<Switchlog> made = () -> Desks.after(Desks.feeder(true, true), "40 10 22 32");
         for (int index : new int[] {-1, 4, 5, 200, Integer.MIN_VALUE, Integer.MAX_VALUE}) {
-            expect.refused(desk, "logged(" + index + ")", Desks.INDEX, () -> desk.logged(index));
+            expect.refused(made, "logged(" + index + ")", Desks.INDEX, x -> x.logged(index));
         }
-        desk.takeBack();
-        expect.refused(desk, "logged(3) after takeBack()", Desks.INDEX, () -> desk.logged(3));
-        expect.due("logged(0) after takeBack()", 202, desk.logged(0));
-        expect.refused(new Switchlog(), "logged(0) of a new desk", Desks.INDEX, () -> new Switchlog().logged(0));
+        expect.refused(() -> takenBack(made.get()), "logged(3) after takeBack()", Desks.INDEX, x -> x.logged(3));
+        expect.due("logged(0) after takeBack()", 202, takenBack(made.get()).logged(0));
+        expect.refused(() -> new Switchlog(), "logged(0) of a new desk", Desks.INDEX, x -> x.logged(0));
+        expect.refused(() -> Desks.withLog(200), "logged(200) of 200", Desks.INDEX, x -> x.logged(200));
         Switchlog many = Desks.bare(16);
         for (int i = 0; i < 24; i++) {
             many.addSwitch(i % 16, (i + 1) % 16, true);

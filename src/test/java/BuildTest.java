@@ -31,16 +31,17 @@ public final class BuildTest {
         expect.due("erase()", 0, desk.erase());
     }
 
+    private static Switchlog worked() {
+        return Desks.withPermits(Desks.written(Desks.withLog(3), "30"), 1);
+    }
+
     private static void desksDoNotShareAnything() {
-        Switchlog one = Desks.withLog(3);
-        one.permit(1);
-        one.write(3, 0);
-        String before = Sight.of(one);
+        Switchlog one = worked();
         Switchlog other = new Switchlog();
         expect.due("nodes() of another desk", 0, other.nodes());
         other.addNode(true, true);
         other.act(4, 0);
-        expect.due("what is seen of the first desk", before, Sight.of(one));
+        expect.due("what is seen of the first desk", Sight.usingUp(worked()), Sight.usingUp(one));
     }
 
     private static void addNodeNumbersSixteen() {
@@ -49,7 +50,8 @@ public final class BuildTest {
             expect.due("addNode " + i, i, desk.addNode(i % 2 == 0, i % 3 == 0));
             expect.due("nodes()", i + 1, desk.nodes());
         }
-        expect.refused(desk, "a 17th addNode", Desks.STATE, () -> desk.addNode(true, true));
+        expect.refused(() -> Desks.bare(16), "a 17th addNode", Desks.STATE, x -> x.addNode(true, true));
+        expect.due("a 17th addNode", "throws.IllegalStateException", Expect.outcome(() -> desk.addNode(true, true)));
         expect.due("act(4, 14)", 0, desk.act(4, 14));
         expect.due("live()", 1 << 14, desk.live());
         expect.due("part(15)", 1 << 15, desk.part(15));
@@ -88,35 +90,34 @@ public final class BuildTest {
             expect.due("addSwitch " + i, i, desk.addSwitch(i % 3, (i + 1) % 3, i % 2 == 0));
             expect.due("switches()", i + 1, desk.switches());
         }
-        expect.refused(desk, "a 25th addSwitch", Desks.STATE, () -> desk.addSwitch(0, 1, true));
+        expect.due("a 25th", "throws.IllegalStateException", Expect.outcome(() -> desk.addSwitch(0, 1, true)));
         expect.due("act(1, 23)", 0, desk.act(1, 23));
         expect.due("isClosed(23)", true, desk.isClosed(23));
         expect.due("part(0)", 0b101, desk.part(0));
         expect.due("isClosed(22)", false, desk.isClosed(22));
     }
 
-    private static void addSwitchRefusesInOrder() {
-        Switchlog empty = new Switchlog();
-        expect.refused(empty, "addSwitch(0, 0) without nodes", Desks.INDEX, () -> empty.addSwitch(0, 0, true));
-        Switchlog desk = Desks.bare(2);
-        expect.refused(desk, "addSwitch(-1, 1)", Desks.INDEX, () -> desk.addSwitch(-1, 1, true));
-        expect.refused(desk, "addSwitch(1, -1)", Desks.INDEX, () -> desk.addSwitch(1, -1, true));
-        expect.refused(desk, "addSwitch(2, 1)", Desks.INDEX, () -> desk.addSwitch(2, 1, true));
-        expect.refused(desk, "addSwitch(1, 2)", Desks.INDEX, () -> desk.addSwitch(1, 2, true));
-        expect.refused(desk, "addSwitch(2, 2)", Desks.INDEX, () -> desk.addSwitch(2, 2, true));
-        expect.refused(desk, "addSwitch(1, 32)", Desks.INDEX, () -> desk.addSwitch(1, 32, true));
-        expect.refused(desk, "addSwitch(0, least)", Desks.INDEX,
-                () -> desk.addSwitch(0, Integer.MIN_VALUE, true));
-        expect.refused(desk, "addSwitch(greatest, 0)", Desks.INDEX,
-                () -> desk.addSwitch(Integer.MAX_VALUE, 0, true));
-        expect.refused(desk, "addSwitch(1, 1)", Desks.ARGUMENT, () -> desk.addSwitch(1, 1, false));
-        expect.due("switches()", 0, desk.switches());
-        for (int i = 0; i < 24; i++) {
-            desk.addSwitch(0, 1, true);
+    private static void refuse(int switches, int one, int other, Class<? extends RuntimeException> want) {
+        for (boolean breaker : new boolean[] {true, false}) {
+            expect.refused(() -> Desks.joined(switches), "addSwitch(" + one + ", " + other + ") of " + switches,
+                    want, desk -> desk.addSwitch(one, other, breaker));
         }
-        expect.refused(desk, "addSwitch(0, 2) of 24", Desks.INDEX, () -> desk.addSwitch(0, 2, true));
-        expect.refused(desk, "addSwitch(0, 0) of 24", Desks.ARGUMENT, () -> desk.addSwitch(0, 0, true));
-        expect.refused(desk, "addSwitch(0, 1) of 24", Desks.STATE, () -> desk.addSwitch(0, 1, true));
+    }
+
+    private static void addSwitchRefusesInOrder() {
+        expect.refused(() -> new Switchlog(), "addSwitch(0, 0) without nodes", Desks.INDEX,
+                desk -> desk.addSwitch(0, 0, true));
+        for (int switches : new int[] {0, 1, 24}) {
+            for (int none : new int[] {-1, 2, 3, 16, 32, Integer.MIN_VALUE, Integer.MAX_VALUE}) {
+                refuse(switches, none, 1, Desks.INDEX);
+                refuse(switches, 0, none, Desks.INDEX);
+                refuse(switches, none, none, Desks.INDEX);
+            }
+            refuse(switches, 0, 0, Desks.ARGUMENT);
+            refuse(switches, 1, 1, Desks.ARGUMENT);
+        }
+        refuse(24, 0, 1, Desks.STATE);
+        refuse(24, 1, 0, Desks.STATE);
     }
 
     private static void addSwitchIsOpenAtFirst() {

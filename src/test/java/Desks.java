@@ -1,14 +1,7 @@
-/** Desks that several tests start from, and names for what they do there. */
+/** Desks that several tests start from, and names for what they expect there. */
 final class Desks {
-    static final int OPEN = 0;
-    static final int CLOSE = 1;
     static final int EARTH_ON = 2;
     static final int EARTH_OFF = 3;
-    static final int SOURCE_ON = 4;
-    static final int SOURCE_OFF = 5;
-
-    static final boolean BREAKER = true;
-    static final boolean DISCONNECTOR = false;
 
     static final Class<IllegalArgumentException> ARGUMENT = IllegalArgumentException.class;
     static final Class<IndexOutOfBoundsException> INDEX = IndexOutOfBoundsException.class;
@@ -37,6 +30,24 @@ final class Desks {
         return desk;
     }
 
+    /** Two nodes with so many breakers between them. */
+    static Switchlog joined(int switches) {
+        Switchlog desk = bare(2);
+        for (int i = 0; i < switches; i++) {
+            desk.addSwitch(0, 1, true);
+        }
+        return desk;
+    }
+
+    /** Nodes whose earths are all on. */
+    static Switchlog earthed(int nodes) {
+        Switchlog desk = bare(nodes);
+        for (int node = 0; node < nodes; node++) {
+            desk.act(EARTH_ON, node);
+        }
+        return desk;
+    }
+
     /** One node whose earth was switched on and off until the log has so many acts. */
     static Switchlog withLog(int acts) {
         Switchlog desk = bare(1);
@@ -48,7 +59,7 @@ final class Desks {
 
     /** Does acts that the test takes as given: "41 10" is act(4, 1), act(1, 0). */
     static Switchlog after(Switchlog desk, String acts) {
-        for (String act : acts.split(" ")) {
+        for (String act : each(acts)) {
             int code = Integer.parseInt(act);
             int why = desk.act(code / 10, code % 10);
             if (why != 0) {
@@ -58,12 +69,23 @@ final class Desks {
         return desk;
     }
 
+    static Switchlog withPermits(Switchlog desk, int... permits) {
+        for (int nodes : permits) {
+            desk.permit(nodes);
+        }
+        return desk;
+    }
+
     /** Writes acts, told as at after(). */
     static Switchlog written(Switchlog desk, String acts) {
-        for (String act : acts.split(" ")) {
+        for (String act : each(acts)) {
             int code = Integer.parseInt(act);
             desk.write(code / 10, code % 10);
         }
         return desk;
+    }
+
+    private static String[] each(String acts) {
+        return acts.isEmpty() ? new String[0] : acts.split(" ");
     }
 }

@@ -1,11 +1,9 @@
 import java.util.Objects;
+import java.util.function.Function;
+import java.util.function.Supplier;
 
 /** Counts the answers of a test's calls, and prints each one that is not due. */
 final class Expect {
-    interface Answer {
-        Object get();
-    }
-
     private final String name;
     private int right;
     private int wrong;
@@ -24,13 +22,19 @@ final class Expect {
     }
 
     /** The very class of the exception counts, because the machine's own are subclasses. */
-    void refused(Switchlog desk, String call, Class<? extends RuntimeException> want, Answer answer) {
-        String before = Sight.of(desk);
-        due(call, "throws." + want.getSimpleName(), outcome(answer));
-        due("what is seen after " + call, before, Sight.of(desk));
+    void refused(Supplier<Switchlog> made, String call, Class<? extends RuntimeException> want,
+            Function<Switchlog, Object> asked) {
+        unchanged(made, call, "throws." + want.getSimpleName(), asked);
     }
 
-    static String outcome(Answer answer) {
+    /** Takes desks made alike, because a desk answers for 512 calls alone and a look takes many. */
+    void unchanged(Supplier<Switchlog> made, String call, String want, Function<Switchlog, Object> asked) {
+        Switchlog desk = made.get();
+        due(call, want, outcome(() -> asked.apply(desk)));
+        due("what is seen after " + call, Sight.usingUp(made.get()), Sight.usingUp(desk));
+    }
+
+    static String outcome(Supplier<Object> answer) {
         try {
             return String.valueOf(answer.get());
         } catch (RuntimeException e) {

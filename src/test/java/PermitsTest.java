@@ -14,68 +14,79 @@ public final class PermitsTest {
         expect.end();
     }
 
-    private static Switchlog earthed(int nodes) {
-        Switchlog desk = Desks.bare(nodes);
-        for (int node = 0; node < nodes; node++) {
-            desk.act(2, node);
+    /** Ten permits were given, of one node each. */
+    private static Switchlog tenGiven() {
+        return Desks.withPermits(Desks.earthed(16), 1, 2, 4, 8, 16, 32, 64, 128, 256, 512);
+    }
+
+    private static Switchlog tenHandedBack() {
+        Switchlog desk = tenGiven();
+        for (int i = 0; i < 10; i++) {
+            desk.handBack(i);
         }
         return desk;
     }
 
     private static void permitNumbersTen() {
-        Switchlog desk = earthed(16);
+        Switchlog desk = Desks.earthed(16);
         for (int i = 0; i < 10; i++) {
             expect.due("permit " + i, i, desk.permit(1 << i));
         }
-        expect.refused(desk, "an 11th permit", Desks.STATE, () -> desk.permit(1 << 10));
-        expect.refused(desk, "an 11th permit of none", Desks.ARGUMENT, () -> desk.permit(0));
-        expect.refused(desk, "an 11th permit of node 16", Desks.ARGUMENT, () -> desk.permit(1 << 16));
         for (int i = 0; i < 10; i++) {
             expect.due("handBack " + i, 9 - i, desk.handBack(i));
         }
-        expect.refused(desk, "a permit after ten were handed back", Desks.STATE, () -> desk.permit(1));
-        Switchlog again = earthed(1);
+        expect.refused(() -> tenGiven(), "an 11th permit", Desks.STATE, x -> x.permit(1 << 10));
+        expect.refused(() -> tenGiven(), "an 11th permit of none", Desks.ARGUMENT, x -> x.permit(0));
+        expect.refused(() -> tenGiven(), "an 11th permit of node 16", Desks.ARGUMENT, x -> x.permit(1 << 16));
+        expect.refused(() -> tenHandedBack(), "a permit after ten", Desks.STATE, x -> x.permit(1));
+        Switchlog again = Desks.earthed(1);
         for (int i = 0; i < 10; i++) {
             expect.due("permit " + i + " of the same node", i, again.permit(1));
             expect.due("handBack " + i, 0, again.handBack(i));
         }
-        expect.refused(again, "an 11th permit of it", Desks.STATE, () -> again.permit(1));
+        expect.due("an 11th permit of it", "throws.IllegalStateException", Expect.outcome(() -> again.permit(1)));
     }
 
     private static void permitRefusesNodes() {
-        Switchlog empty = new Switchlog();
-        expect.refused(empty, "permit(0) without nodes", Desks.ARGUMENT, () -> empty.permit(0));
-        expect.refused(empty, "permit(1) without nodes", Desks.ARGUMENT, () -> empty.permit(1));
-        Switchlog desk = earthed(3);
+        expect.refused(() -> new Switchlog(), "permit(0) without nodes", Desks.ARGUMENT, desk -> desk.permit(0));
+        expect.refused(() -> new Switchlog(), "permit(1) without nodes", Desks.ARGUMENT, desk -> desk.permit(1));
         for (int nodes : new int[] {0, 8, 9, 15, 1 << 16, 1 << 30, -1, -8, Integer.MIN_VALUE, Integer.MIN_VALUE + 1}) {
-            expect.refused(desk, "permit(" + nodes + ")", Desks.ARGUMENT, () -> desk.permit(nodes));
+            expect.refused(() -> Desks.earthed(3), "permit(" + nodes + ")", Desks.ARGUMENT, desk -> desk.permit(nodes));
         }
-        expect.due("permit(7)", 0, desk.permit(7));
-        expect.refused(desk, "permit(15)", Desks.ARGUMENT, () -> desk.permit(15));
-        Switchlog whole = earthed(16);
-        expect.refused(whole, "permit(-1) of 16 nodes", Desks.ARGUMENT, () -> whole.permit(-1));
-        expect.refused(whole, "permit(2 to the 16th) of 16 nodes", Desks.ARGUMENT, () -> whole.permit(1 << 16));
-        expect.due("permit of 16 nodes", 0, whole.permit((1 << 16) - 1));
+        expect.refused(() -> Desks.withPermits(Desks.earthed(3), 7), "permit(15) of held nodes and none",
+                Desks.ARGUMENT, desk -> desk.permit(15));
+        for (int nodes : new int[] {-1, 1 << 16, 1 << 17, Integer.MIN_VALUE}) {
+            expect.refused(() -> Desks.earthed(16), "permit(" + nodes + ") of 16", Desks.ARGUMENT,
+                    desk -> desk.permit(nodes));
+        }
+        expect.due("permit of 3 nodes", 0, Desks.earthed(3).permit(7));
+        expect.due("permit of 16 nodes", 0, Desks.earthed(16).permit((1 << 16) - 1));
+    }
+
+    private static void cannotBeGiven(String why, int nodes, int... permits) {
+        expect.refused(() -> Desks.withPermits(Desks.after(Desks.feeder(true, true), "40 21 22"), permits),
+                "permit of " + why, Desks.STATE, desk -> desk.permit(nodes));
     }
 
     private static void permitRefusesWhatCannotBeGiven() {
-        Switchlog desk = Desks.after(Desks.feeder(true, true), "40 22");
-        expect.refused(desk, "permit of a live node", Desks.STATE, () -> desk.permit(0b001));
-        expect.refused(desk, "permit of a node that is not earthed", Desks.STATE, () -> desk.permit(0b010));
-        expect.refused(desk, "permit of one earthed and one not", Desks.STATE, () -> desk.permit(0b110));
-        expect.refused(desk, "permit of one earthed and one live", Desks.STATE, () -> desk.permit(0b101));
-        expect.due("permit(0b100)", 0, desk.permit(0b100));
-        expect.refused(desk, "permit of a node that is held", Desks.STATE, () -> desk.permit(0b100));
-        Desks.after(desk, "21");
-        expect.refused(desk, "permit of one held and one not", Desks.STATE, () -> desk.permit(0b110));
-        expect.due("permit(0b010)", 1, desk.permit(0b010));
+        cannotBeGiven("a live node", 0b001);
+        cannotBeGiven("one earthed and one live", 0b101);
+        cannotBeGiven("a node that is held", 0b100, 0b100);
+        cannotBeGiven("one held and one not", 0b110, 0b100);
+        cannotBeGiven("one of two that are held", 0b010, 0b110);
+        expect.refused(() -> Desks.bare(1), "permit of a node that is not earthed", Desks.STATE, x -> x.permit(1));
+        expect.refused(() -> Desks.after(Desks.bare(2), "20"), "permit of one earthed and one not", Desks.STATE,
+                x -> x.permit(0b11));
+        Switchlog desk = Desks.withPermits(Desks.earthed(3), 0b100, 0b010);
         expect.due("handBack(0)", 1, desk.handBack(0));
-        expect.refused(desk, "permit of one held still", Desks.STATE, () -> desk.permit(0b110));
-        expect.due("permit(0b100) again", 2, desk.permit(0b100));
+        expect.due("permit of one held still", "throws.IllegalStateException",
+                Expect.outcome(() -> desk.permit(0b110)));
+        expect.due("permit(0b101)", 2, desk.permit(0b101));
+        expect.due("held()", 0b111, desk.held());
     }
 
     private static void permitHoldsSeveralNodes() {
-        Switchlog desk = earthed(4);
+        Switchlog desk = Desks.earthed(4);
         expect.due("permit(0b1010)", 0, desk.permit(0b1010));
         expect.due("held()", 0b1010, desk.held());
         expect.due("act(3, 1)", 2, desk.act(3, 1));
@@ -95,7 +106,7 @@ public final class PermitsTest {
     }
 
     private static void handBackCounts() {
-        Switchlog desk = earthed(3);
+        Switchlog desk = Desks.earthed(3);
         desk.permit(0b001);
         desk.permit(0b010);
         desk.permit(0b100);
@@ -109,23 +120,26 @@ public final class PermitsTest {
     }
 
     private static void handBackRefusesInOrder() {
-        Switchlog empty = new Switchlog();
-        expect.refused(empty, "handBack(0) with none given", Desks.INDEX, () -> empty.handBack(0));
-        Switchlog desk = earthed(2);
-        desk.permit(0b01);
-        desk.permit(0b10);
+        expect.refused(() -> new Switchlog(), "handBack(0) with none given", Desks.INDEX, desk -> desk.handBack(0));
         for (int permit : new int[] {-1, 2, 9, 10, Integer.MIN_VALUE, Integer.MAX_VALUE}) {
-            expect.refused(desk, "handBack(" + permit + ")", Desks.INDEX, () -> desk.handBack(permit));
+            expect.refused(() -> Desks.withPermits(Desks.earthed(2), 1, 2), "handBack(" + permit + ")", Desks.INDEX,
+                    desk -> desk.handBack(permit));
         }
+        expect.refused(() -> tenGiven(), "handBack(10) of ten", Desks.INDEX, desk -> desk.handBack(10));
+        expect.refused(() -> tenHandedBack(), "handBack(9) twice", Desks.STATE, desk -> desk.handBack(9));
+        expect.refused(() -> heldAgain(), "handBack(0) with its node held again", Desks.STATE,
+                desk -> desk.handBack(0));
+        expect.due("handBack(1) of the later permit", 0, heldAgain().handBack(1));
+    }
+
+    private static Switchlog heldAgain() {
+        Switchlog desk = Desks.withPermits(Desks.earthed(1), 1);
         desk.handBack(0);
-        expect.refused(desk, "handBack(0) twice", Desks.STATE, () -> desk.handBack(0));
-        desk.permit(0b01);
-        expect.refused(desk, "handBack(0) with its node held again", Desks.STATE, () -> desk.handBack(0));
-        expect.due("held()", 0b11, desk.held());
+        return Desks.withPermits(desk, 1);
     }
 
     private static void heldIsWhatAllPermitsHold() {
-        Switchlog desk = earthed(16);
+        Switchlog desk = Desks.earthed(16);
         expect.due("held() with no permit", 0, desk.held());
         desk.permit(0b11 << 14);
         expect.due("held() with one", 0b11 << 14, desk.held());

@@ -1,3 +1,5 @@
+import java.util.function.Supplier;
+
 /** Promises 12 to 16: the sequence. */
 public final class SequencesTest {
     private static final Expect expect = new Expect("SequencesTest");
@@ -20,18 +22,19 @@ public final class SequencesTest {
         expect.end();
     }
 
-    private static void fill(Switchlog desk, int acts) {
+    private static Switchlog filled(Switchlog desk, int acts) {
         for (int i = 0; i < acts; i++) {
             desk.write(i % 2 == 0 ? 2 : 3, 0);
         }
+        return desk;
     }
 
     private static void writeCountsThirty() {
+        expect.refused(() -> filled(Desks.bare(1), 30), "a 31st write", Desks.STATE, desk -> desk.write(2, 0));
         Switchlog desk = Desks.bare(1);
         for (int i = 0; i < 30; i++) {
             expect.due("write " + i, i + 1, desk.write(i % 2 == 0 ? 2 : 3, 0));
         }
-        expect.refused(desk, "a 31st write", Desks.STATE, () -> desk.write(2, 0));
         expect.due("check()", 30, desk.check());
         expect.due("log()", 0, desk.log());
         expect.due("earthed()", 0, desk.earthed());
@@ -41,20 +44,19 @@ public final class SequencesTest {
 
     private static void writeRefusesInOrder() {
         for (int acts : new int[] {0, 30}) {
-            Switchlog desk = Desks.feeder(true, true);
-            fill(desk, acts);
+            Supplier<Switchlog> made = () -> filled(Desks.feeder(true, true), acts);
             for (int kind : new int[] {-1, 6, Integer.MIN_VALUE, Integer.MAX_VALUE}) {
-                expect.refused(desk, "write(" + kind + ", 9)", Desks.ARGUMENT, () -> desk.write(kind, 9));
-                expect.refused(desk, "write(" + kind + ", 0)", Desks.ARGUMENT, () -> desk.write(kind, 0));
+                expect.refused(made, "write(" + kind + ", 9)", Desks.ARGUMENT, desk -> desk.write(kind, 9));
+                expect.refused(made, "write(" + kind + ", 0)", Desks.ARGUMENT, desk -> desk.write(kind, 0));
             }
-            for (int kind = 0; kind < 6; kind++) {
-                int its = kind;
+            for (int i = 0; i < 6; i++) {
+                int kind = i;
                 int bound = kind < 2 ? 2 : 3;
                 for (int what : new int[] {-1, bound, 100, Integer.MIN_VALUE, Integer.MAX_VALUE}) {
-                    expect.refused(desk, "write(" + kind + ", " + what + ")", Desks.INDEX, () -> desk.write(its, what));
+                    expect.refused(made, "write(" + kind + ", " + what + ")", Desks.INDEX,
+                            desk -> desk.write(kind, what));
                 }
             }
-            expect.due("erase()", acts, desk.erase());
         }
     }
 
@@ -68,7 +70,7 @@ public final class SequencesTest {
     private static void eraseEmpties() {
         Switchlog desk = Desks.bare(1);
         expect.due("erase() of an empty sequence", 0, desk.erase());
-        fill(desk, 7);
+        filled(desk, 7);
         expect.due("erase()", 7, desk.erase());
         expect.due("erase() again", 0, desk.erase());
         expect.due("check()", 0, desk.check());
@@ -77,10 +79,10 @@ public final class SequencesTest {
     }
 
     private static void checkGoesInThought() {
-        Switchlog desk = Desks.written(Desks.feeder(false, true), "10 40 11 01 00 50 20 30");
-        String before = Sight.of(desk);
+        Supplier<Switchlog> made = () -> Desks.written(Desks.feeder(false, true), "10 40 11 01 00 50 20 30");
+        expect.unchanged(made, "check() of eight", "8", x -> x.check());
+        Switchlog desk = made.get();
         expect.due("check() of eight", 8, desk.check());
-        expect.due("what is seen after check()", before, Sight.of(desk));
         desk.write(3, 0);
         expect.due("check() with an act that is so already", 8, desk.check());
         desk.write(2, 0);
@@ -111,7 +113,7 @@ public final class SequencesTest {
 
     private static void checkDoesNotLookAtTheLog() {
         Switchlog desk = Desks.withLog(200);
-        fill(desk, 3);
+        filled(desk, 3);
         expect.due("check() with a full log", 3, desk.check());
     }
 
@@ -150,36 +152,38 @@ public final class SequencesTest {
     }
 
     private static void carryOutRefusesInOrder() {
-        Switchlog desk = Desks.withLog(200);
-        desk.write(2, 0);
-        for (int acts : new int[] {0, -1, 31, 32, Integer.MIN_VALUE, Integer.MAX_VALUE}) {
-            expect.refused(desk, "carryOut(" + acts + ")", Desks.ARGUMENT, () -> desk.carryOut(acts));
+        for (int log : new int[] {0, 200}) {
+            Supplier<Switchlog> made = () -> Desks.written(Desks.withLog(log), "20");
+            for (int acts : new int[] {0, -1, 31, 32, Integer.MIN_VALUE, Integer.MAX_VALUE}) {
+                expect.refused(made, "carryOut(" + acts + ")", Desks.ARGUMENT, desk -> desk.carryOut(acts));
+            }
         }
-        expect.refused(desk, "carryOut(1) with a full log", Desks.STATE, () -> desk.carryOut(1));
-        expect.refused(desk, "carryOut(30) with a full log", Desks.STATE, () -> desk.carryOut(30));
-        expect.due("erase()", 1, desk.erase());
-        expect.due("carryOut(30) of none with a full log", 0, desk.carryOut(30));
+        Supplier<Switchlog> full = () -> Desks.written(Desks.withLog(200), "20");
+        expect.refused(full, "carryOut(1) with a full log", Desks.STATE, desk -> desk.carryOut(1));
+        expect.refused(full, "carryOut(30) with a full log", Desks.STATE, desk -> desk.carryOut(30));
+        expect.unchanged(() -> Desks.withLog(200), "carryOut(30) of none with a full log", "0",
+                desk -> desk.carryOut(30));
     }
 
     private static void carryOutLooksAtTheRoomOfTheLog() {
+        Supplier<Switchlog> made = () -> filled(Desks.withLog(190), 12);
+        expect.refused(made, "carryOut(11) with room for 10", Desks.STATE, x -> x.carryOut(11));
+        expect.refused(made, "carryOut(30) with room for 10", Desks.STATE, x -> x.carryOut(30));
         Switchlog desk = Desks.withLog(190);
-        fill(desk, 12);
-        expect.refused(desk, "carryOut(11) with room for 10", Desks.STATE, () -> desk.carryOut(11));
-        expect.refused(desk, "carryOut(30) with room for 10", Desks.STATE, () -> desk.carryOut(30));
+        filled(desk, 12);
         expect.due("carryOut(10) with room for 10", 10, desk.carryOut(10));
         expect.due("log()", 200, desk.log());
         expect.due("erase()", 2, desk.erase());
         Switchlog fewer = Desks.withLog(190);
-        fill(fewer, 10);
+        filled(fewer, 10);
         expect.due("carryOut(30) of 10 with room for 10", 10, fewer.carryOut(30));
         expect.due("log()", 200, fewer.log());
         // So many acts count, whether they would be allowed or not.
-        Switchlog notAllowed = Desks.withLog(199);
-        Desks.written(notAllowed, "20 20");
-        expect.refused(notAllowed, "carryOut(2) with room for 1", Desks.STATE, () -> notAllowed.carryOut(2));
-        expect.due("carryOut(1) with room for 1", 0, notAllowed.carryOut(1));
+        Supplier<Switchlog> notAllowed = () -> Desks.written(Desks.withLog(199), "20 20");
+        expect.refused(notAllowed, "carryOut(2) with room for 1", Desks.STATE, x -> x.carryOut(2));
+        expect.unchanged(notAllowed, "carryOut(1) with room for 1", "0", x -> x.carryOut(1));
         Switchlog whole = Desks.withLog(170);
-        fill(whole, 30);
+        filled(whole, 30);
         expect.due("carryOut(30) with room for 30", 30, whole.carryOut(30));
         expect.due("log()", 200, whole.log());
     }
@@ -215,7 +219,7 @@ public final class SequencesTest {
         }
         Switchlog full = Desks.withLog(200);
         expect.due("writeBack() of a full log", 30, full.writeBack());
-        expect.refused(full, "a write behind it", Desks.STATE, () -> full.write(2, 0));
+        expect.due("a write behind it", "throws.IllegalStateException", Expect.outcome(() -> full.write(2, 0)));
     }
 
     private static int opposite(int act) {

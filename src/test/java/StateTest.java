@@ -1,4 +1,5 @@
 import java.util.NoSuchElementException;
+import java.util.function.Supplier;
 
 /** Promises 20 to 26: what is. */
 public final class StateTest {
@@ -12,10 +13,12 @@ public final class StateTest {
         partsGoOverClosedSwitches();
         longWaysAreFollowedBothWays();
         nodesThatThereAreNot();
+        toLiveWithoutAWay();
         toLiveCountsOpenSwitches();
         toLiveTakesTheShortestWay();
         toLiveAsksForNoLeave();
         toLiveGoesThroughAll();
+        toLivePassesSwitchesSideBySide();
         expect.end();
     }
 
@@ -27,10 +30,11 @@ public final class StateTest {
         desk.act(0, 1);
         expect.due("isClosed(1)", false, desk.isClosed(1));
         for (int which : new int[] {-1, 2, 3, 32, Integer.MIN_VALUE, Integer.MAX_VALUE}) {
-            expect.refused(desk, "isClosed(" + which + ")", Desks.INDEX, () -> desk.isClosed(which));
+            expect.refused(() -> Desks.feeder(true, true), "isClosed(" + which + ")", Desks.INDEX,
+                    x -> x.isClosed(which));
         }
-        Switchlog empty = new Switchlog();
-        expect.refused(empty, "isClosed(0) without switches", Desks.INDEX, () -> empty.isClosed(0));
+        expect.refused(() -> Desks.bare(3), "isClosed(0) without switches", Desks.INDEX, x -> x.isClosed(0));
+        expect.refused(() -> Desks.joined(24), "isClosed(24) of 24", Desks.INDEX, x -> x.isClosed(24));
     }
 
     private static void whichNodesAreLive() {
@@ -127,20 +131,38 @@ public final class StateTest {
     }
 
     private static void nodesThatThereAreNot() {
-        Switchlog desk = Desks.after(Desks.feeder(true, true), "40");
-        for (int node : new int[] {-1, 3, 16, 32, Integer.MIN_VALUE, Integer.MAX_VALUE}) {
-            expect.refused(desk, "part(" + node + ")", Desks.INDEX, () -> desk.part(node));
-            expect.refused(desk, "toLive(" + node + ")", Desks.INDEX, () -> desk.toLive(node));
+        noSuchNodes(() -> new Switchlog(), -1, 0, 1);
+        noSuchNodes(() -> Desks.after(Desks.feeder(true, true), "40"), -1, 3, 16, 32, Integer.MIN_VALUE);
+        noSuchNodes(() -> Desks.bare(16), -1, 16, 17, 32, Integer.MAX_VALUE);
+    }
+
+    private static void noSuchNodes(Supplier<Switchlog> made, int... nodes) {
+        for (int node : nodes) {
+            expect.refused(made, "part(" + node + ")", Desks.INDEX, desk -> desk.part(node));
+            expect.refused(made, "toLive(" + node + ")", Desks.INDEX, desk -> desk.toLive(node));
         }
-        Switchlog empty = new Switchlog();
-        expect.refused(empty, "part(0) without nodes", Desks.INDEX, () -> empty.part(0));
-        expect.refused(empty, "toLive(0) without nodes", Desks.INDEX, () -> empty.toLive(0));
+    }
+
+    private static void cannotBeLive(Supplier<Switchlog> made, int node) {
+        expect.refused(made, "toLive(" + node + ")", NoSuchElementException.class, desk -> desk.toLive(node));
+    }
+
+    private static void toLiveWithoutAWay() {
+        cannotBeLive(() -> Desks.feeder(true, true), 0);
+        cannotBeLive(() -> Desks.feeder(true, true), 2);
+        cannotBeLive(() -> Desks.after(Desks.feeder(true, true), "40 10 50"), 1);
+        cannotBeLive(() -> Desks.bare(16), 15);
+        Supplier<Switchlog> apart = () -> {
+            Switchlog desk = Desks.feeder(true, true);
+            desk.addNode(true, true);
+            return Desks.after(desk, "40 10 11");
+        };
+        cannotBeLive(apart, 3);
+        expect.due("toLive(2) beside it", 0, apart.get().toLive(2));
     }
 
     private static void toLiveCountsOpenSwitches() {
         Switchlog desk = Desks.feeder(true, true);
-        expect.refused(desk, "toLive(0) with no source on", NoSuchElementException.class, () -> desk.toLive(0));
-        expect.refused(desk, "toLive(2) with no source on", NoSuchElementException.class, () -> desk.toLive(2));
         Desks.after(desk, "40");
         expect.due("toLive(0)", 0, desk.toLive(0));
         expect.due("toLive(1)", 1, desk.toLive(1));
@@ -149,8 +171,6 @@ public final class StateTest {
         expect.due("toLive(2) with one closed", 1, desk.toLive(2));
         Desks.after(desk, "10");
         expect.due("toLive(2) with both closed", 0, desk.toLive(2));
-        desk.addNode(true, false);
-        expect.refused(desk, "toLive(3) without switches", NoSuchElementException.class, () -> desk.toLive(3));
     }
 
     private static void toLiveTakesTheShortestWay() {
@@ -201,5 +221,20 @@ public final class StateTest {
         expect.due("toLive(8)", 14, desk.toLive(8));
         desk.act(1, 4);
         expect.due("toLive(8) with 2 - 13 closed", 13, desk.toLive(8));
+    }
+
+    private static void toLivePassesSwitchesSideBySide() {
+        Switchlog desk = Desks.feeder(true, true);
+        desk.addSwitch(0, 1, false);
+        desk.addSwitch(2, 1, false);
+        Desks.after(desk, "40");
+        expect.due("toLive(2) over two of two", 2, desk.toLive(2));
+        for (int i = 4; i < 24; i++) {
+            desk.addSwitch(1, 2 * (i % 2), true);
+        }
+        expect.due("toLive(1) over one of twelve", 1, desk.toLive(1));
+        expect.due("toLive(2) over two of twelve", 2, desk.toLive(2));
+        desk.act(1, 23);
+        expect.due("toLive(2) with the last one closed", 1, desk.toLive(2));
     }
 }
