@@ -7,7 +7,25 @@ final class Desks {
     static final Class<IndexOutOfBoundsException> INDEX = IndexOutOfBoundsException.class;
     static final Class<IllegalStateException> STATE = IllegalStateException.class;
 
+    /** Numbers that a shift, a sum or a product could turn into one that there is. */
+    static final int[] WRAPPED = {-64, -32, 32, 64, 1 << 16, 1 << 30, -(1 << 30), Integer.MIN_VALUE, Integer.MAX_VALUE};
+
     private Desks() {
+    }
+
+    /**
+     * "s l sl -" are nodes with a source, a load, both, neither; "01b 12d" are a breaker from node 0
+     * to node 1 and a disconnector from node 1 to node 2; acts are told as at after().
+     */
+    static Switchlog made(String nodes, String switches, String acts) {
+        Switchlog desk = new Switchlog();
+        for (String node : each(nodes)) {
+            desk.addNode(node.contains("s"), node.contains("l"));
+        }
+        for (String which : each(switches)) {
+            desk.addSwitch(which.charAt(0) - '0', which.charAt(1) - '0', which.charAt(2) == 'b');
+        }
+        return after(desk, acts);
     }
 
     /** Nodes without source and load. */
@@ -30,9 +48,9 @@ final class Desks {
         return desk;
     }
 
-    /** Two nodes with so many breakers between them. */
-    static Switchlog joined(int switches) {
-        Switchlog desk = bare(2);
+    /** So many breakers between the nodes 0 and 1. */
+    static Switchlog joined(int nodes, int switches) {
+        Switchlog desk = bare(nodes);
         for (int i = 0; i < switches; i++) {
             desk.addSwitch(0, 1, true);
         }

@@ -1,6 +1,3 @@
-import java.util.NoSuchElementException;
-import java.util.function.Supplier;
-
 /** Promises 20 to 26: what is. */
 public final class StateTest {
     private static final Expect expect = new Expect("StateTest");
@@ -12,8 +9,6 @@ public final class StateTest {
         whichNodesAreEarthed();
         partsGoOverClosedSwitches();
         longWaysAreFollowedBothWays();
-        nodesThatThereAreNot();
-        toLiveWithoutAWay();
         toLiveCountsOpenSwitches();
         toLiveTakesTheShortestWay();
         toLiveAsksForNoLeave();
@@ -29,12 +24,6 @@ public final class StateTest {
         expect.due("isClosed(1)", true, desk.isClosed(1));
         desk.act(0, 1);
         expect.due("isClosed(1)", false, desk.isClosed(1));
-        for (int which : new int[] {-1, 2, 3, 32, Integer.MIN_VALUE, Integer.MAX_VALUE}) {
-            expect.refused(() -> Desks.feeder(true, true), "isClosed(" + which + ")", Desks.INDEX,
-                    x -> x.isClosed(which));
-        }
-        expect.refused(() -> Desks.bare(3), "isClosed(0) without switches", Desks.INDEX, x -> x.isClosed(0));
-        expect.refused(() -> Desks.joined(24), "isClosed(24) of 24", Desks.INDEX, x -> x.isClosed(24));
     }
 
     private static void whichNodesAreLive() {
@@ -128,37 +117,6 @@ public final class StateTest {
             expect.due("parts()", 1, desk.parts());
             expect.due("toLive(0)", 0, desk.toLive(0));
         }
-    }
-
-    private static void nodesThatThereAreNot() {
-        noSuchNodes(() -> new Switchlog(), -1, 0, 1);
-        noSuchNodes(() -> Desks.after(Desks.feeder(true, true), "40"), -1, 3, 16, 32, Integer.MIN_VALUE);
-        noSuchNodes(() -> Desks.bare(16), -1, 16, 17, 32, Integer.MAX_VALUE);
-    }
-
-    private static void noSuchNodes(Supplier<Switchlog> made, int... nodes) {
-        for (int node : nodes) {
-            expect.refused(made, "part(" + node + ")", Desks.INDEX, desk -> desk.part(node));
-            expect.refused(made, "toLive(" + node + ")", Desks.INDEX, desk -> desk.toLive(node));
-        }
-    }
-
-    private static void cannotBeLive(Supplier<Switchlog> made, int node) {
-        expect.refused(made, "toLive(" + node + ")", NoSuchElementException.class, desk -> desk.toLive(node));
-    }
-
-    private static void toLiveWithoutAWay() {
-        cannotBeLive(() -> Desks.feeder(true, true), 0);
-        cannotBeLive(() -> Desks.feeder(true, true), 2);
-        cannotBeLive(() -> Desks.after(Desks.feeder(true, true), "40 10 50"), 1);
-        cannotBeLive(() -> Desks.bare(16), 15);
-        Supplier<Switchlog> apart = () -> {
-            Switchlog desk = Desks.feeder(true, true);
-            desk.addNode(true, true);
-            return Desks.after(desk, "40 10 11");
-        };
-        cannotBeLive(apart, 3);
-        expect.due("toLive(2) beside it", 0, apart.get().toLive(2));
     }
 
     private static void toLiveCountsOpenSwitches() {
