@@ -17,6 +17,7 @@ public final class SequencesEdgesTest {
         checkOfNoneToThirty();
         checkTellsTheFirstThatIsNotAllowed();
         checkOfEachReason();
+        checkGoesOnFromWhatIsDoneInThought();
         checkStartsFromHowThingsAre();
         checkHasNoEyeForTheLog();
         carryOutOfActsOutOfRange();
@@ -238,7 +239,27 @@ public final class SequencesEdgesTest {
         checkDue(2, "22 31", "- - -", "01b", "10 21");
     }
 
-    /** Terms: "doing its acts in thought, one after the other, from how things are". */
+    /** Terms: "doing its acts in thought, one after the other"; what was before does not count then. */
+    private static void checkGoesOnFromWhatIsDoneInThought() {
+        checkDue(1, "20 40", "s", "", "");
+        checkDue(2, "30 40", "s", "", "20");
+        checkDue(1, "40 20", "s", "", "");
+        checkDue(2, "50 20", "s", "", "40");
+        checkDue(2, "21 40 10", "s -", "01b", "");
+        checkDue(3, "31 40 10", "s -", "01b", "21");
+        checkDue(2, "40 21 10", "s -", "01b", "");
+        checkDue(3, "50 21 10", "s -", "01b", "40");
+        checkDue(3, "10 40 11", "s l", "01b 01d", "");
+        checkDue(2, "00 40 11", "s l", "01b 01d", "10");
+        checkDue(4, "10 11 40 00", "s l", "01d 01d", "");
+        checkDue(2, "01 40 00", "s l", "01d 01d", "10 11");
+        checkDue(2, "10 31", "- -", "01b", "20 21");
+        checkDue(2, "21 30", "- - -", "01b 12b", "10 11 20", 0b100);
+        checkDue(0, "30 21", "- - -", "01b 12b", "10 11 20", 0b100);
+        checkDue(2, "21 30 31", "- - -", "01b 12b", "10 11 20", 0b100);
+    }
+
+    /** Terms: "from how things are". */
     private static void checkStartsFromHowThingsAre() {
         Switchlog desk = Desks.written(Desks.bare(1), "20 30 20");
         expect.due("check() with the earth off", 3, desk.check());

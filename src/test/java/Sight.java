@@ -6,7 +6,8 @@ import java.util.function.Supplier;
 final class Sight {
     /** Each look uses its desk up, because some things can only be seen by changing others. */
     private static final List<Function<Switchlog, String>> LOOKS =
-            List.of(Sight::whatIs, Sight::acts, Sight::log, Sight::sequence, Sight::permits, Sight::whatIsBuilt);
+            List.of(Sight::whatIs, Sight::acts, Sight::log, Sight::sequence, Sight::permits, Sight::room,
+                    Sight::whatIsBuilt);
 
     private static final int MOST_PERMITS = 10;
     private static final int MOST_WRITTEN = 30;
@@ -85,6 +86,19 @@ final class Sight {
         return text.toString();
     }
 
+    private static String room(Switchlog desk) {
+        StringBuilder text = new StringBuilder("next permits");
+        int nodes = desk.nodes();
+        for (int i = 0; i < nodes; i++) {
+            int node = i;
+            text.append(' ').append(Expect.outcome(() -> desk.permit(1 << node)));
+        }
+        text.append(" held ").append(desk.held());
+        text.append(" next node ").append(Expect.outcome(() -> desk.addNode(true, true)));
+        text.append(" next switch ").append(Expect.outcome(() -> desk.addSwitch(0, 1, true)));
+        return text.toString();
+    }
+
     /** Sources and loads, breakers and what they join are seen once all that has a source is on. */
     private static String whatIsBuilt(Switchlog desk) {
         permits(desk);
@@ -100,9 +114,6 @@ final class Sight {
             text.append(' ').append(Expect.outcome(() -> desk.act(1, which)));
             text.append(' ').append(Expect.outcome(() -> desk.act(0, which)));
         }
-        text.append(" parts ").append(desk.parts()).append(" live ").append(desk.live());
-        text.append(" next ").append(Expect.outcome(() -> desk.addNode(true, true)));
-        text.append(" next ").append(Expect.outcome(() -> desk.addSwitch(0, 1, true)));
-        return text.toString();
+        return text.append(" parts ").append(desk.parts()).append(" live ").append(desk.live()).toString();
     }
 }

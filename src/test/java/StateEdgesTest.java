@@ -323,6 +323,15 @@ public final class StateEdgesTest {
         toLiveDue(1, 1, "s -", "01b 01d 10b", "40");
         toLiveDue(2, 2, "s - -", "01b 01d 12b 21d", "40");
         toLiveDue(1, 2, "s - -", "01b 01d 12b 21d", "40 11");
+        Switchlog last = Desks.joined(2, 22);
+        last.addNode(true, false);
+        last.addNode(false, false);
+        last.addSwitch(2, 3, true);
+        last.addSwitch(1, 2, true);
+        last.act(4, 2);
+        expect.due("toLive(0) over the last of 24 switches", 2, last.toLive(0));
+        expect.due("toLive(1) over the last of 24 switches", 1, last.toLive(1));
+        expect.due("toLive(3) over the last but one", 1, last.toLive(3));
     }
 
     private static void cannotBeLive(int node, String nodes, String switches, String acts) {
