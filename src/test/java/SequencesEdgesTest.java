@@ -139,7 +139,7 @@ public final class SequencesEdgesTest {
         }
     }
 
-    /** Promise 12: "Writes an act at the end of the sequence. Returns how many acts the sequence has then." */
+    /** Promise 12: "Writes an act at the end of the sequence."; "Returns how many acts the sequence has then." */
     private static void writeAtTheEnd() {
         Switchlog desk = new Switchlog();
         for (int node = 0; node < 16; node++) {
